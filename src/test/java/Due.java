@@ -1,0 +1,72 @@
+/** Counts answers that are not as due, and helps to write short tests. */
+final class Due {
+    private final String test;
+    private int wrong = 0;
+    private int asked = 0;
+
+    Due(String test) {
+        this.test = test;
+    }
+
+    void is(String call, long got, long want) {
+        asked++;
+        if (got != want) {
+            wrong++;
+            System.out.println(test + ": " + call + " answered " + got + ", due is " + want);
+        }
+    }
+
+    void holds(String what, boolean so) {
+        is(what, so ? 1 : 0, 1);
+    }
+
+    /** Ends the program with exit code 1 if one answer was wrong. */
+    void end() {
+        System.out.println(test + ": " + (asked - wrong) + " of " + asked + " answers as due");
+        if (wrong != 0) {
+            System.exit(1);
+        }
+    }
+
+    static void feedAll(BarrelMoon moon, String text) {
+        for (int i = 0; i < text.length(); i++) {
+            moon.feed(text.charAt(i));
+        }
+    }
+
+    /** A new object with this town. */
+    static BarrelMoon townOf(String text) {
+        BarrelMoon moon = new BarrelMoon();
+        feedAll(moon, text);
+        int rules = moon.town();
+        if (rules < 0) {
+            throw new IllegalStateException("the test's own text has a fault: " + text);
+        }
+        return moon;
+    }
+
+    static int set(int... bits) {
+        int set = 0;
+        for (int bit : bits) {
+            set |= 1 << bit;
+        }
+        return set;
+    }
+
+    /** All that can be looked at without changing anything, so that two states can be compared. */
+    static String look(BarrelMoon moon) {
+        StringBuilder seen = new StringBuilder();
+        for (int what = 0; what <= 12; what++) {
+            seen.append(moon.told(what)).append(' ');
+        }
+        for (int r = 0; r < moon.told(1); r++) {
+            for (int what = 0; what <= 3; what++) {
+                seen.append(moon.rule(r, what)).append(' ');
+            }
+        }
+        for (int what = 0; what <= 2; what++) {
+            seen.append(moon.believed(what)).append(' ');
+        }
+        return seen.append(moon.judge()).append(' ').append(moon.fault()).toString();
+    }
+}
