@@ -533,15 +533,17 @@ public final class BarrelMoon {
         /** What FOLLOWS from a set by these rules alone. */
         int closure(int set, int by) {
             int so = set;
-            // Each pass but the last adds a conclusion, so there is one pass more than rules at most.
-            for (int pass = 0; pass <= RULES_MOST; pass++) {
-                int before = so;
+            int waiting = by & allRules();
+            // Each pass but the last takes a rule away from those that wait, so it ends by itself.
+            for (int pass = 0; pass < RULES_MOST && waiting != 0; pass++) {
+                int before = waiting;
                 for (int r = 0; r < rules; r++) {
-                    if (has(by, r) && (needs[r] & ~so) == 0) {
+                    if ((waiting >> r & 1) != 0 && (needs[r] & ~so) == 0) {
                         so |= 1 << concludes[r];
+                        waiting &= ~(1 << r);
                     }
                 }
-                if (so == before) {
+                if (waiting == before) {
                     break;
                 }
             }
@@ -790,10 +792,9 @@ public final class BarrelMoon {
             int best = allowed;
             int least = RULES_MOST * COST_MOST + 1;
             for (int rules = 0; rules <= allowed; rules++) {
-                int cost = town.costOf(rules);
-                if (isAllowed(rules) && cost < least && isPeaceWithout(rules)) {
+                if (isAllowed(rules) && town.costOf(rules) < least && isPeaceWithout(rules)) {
                     best = rules;
-                    least = cost;
+                    least = town.costOf(rules);
                 }
             }
             return best;

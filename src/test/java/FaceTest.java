@@ -1,0 +1,119 @@
+import java.io.IOException;
+import java.lang.reflect.Field;
+import java.lang.reflect.Method;
+import java.lang.reflect.Modifier;
+import java.nio.file.Files;
+import java.nio.file.Path;
+import java.util.Arrays;
+import java.util.List;
+import java.util.Set;
+import java.util.TreeSet;
+import java.util.regex.Matcher;
+import java.util.regex.Pattern;
+import java.util.stream.Collectors;
+
+/** The public face of the document, and those rules of LANGUAGE.md that can be seen from outside or by the letter. */
+public final class FaceTest {
+    private static final Due due = new Due("FaceTest");
+    private static final Path SOURCE = Path.of("src/main/java/BarrelMoon.java");
+    private static final Set<String> FACE = new TreeSet<>(List.of(
+            "feed(int)", "town()", "fault()", "told(int)", "rule(int,int)", "see(int,boolean)",
+            "forbid(int,boolean)", "debate()", "drop()", "drift(int)", "undo()", "follows(int)",
+            "proof(int,int)", "giveUp(int)", "words(int)", "step(int)", "barred(int)", "never()", "round()",
+            "vote(int,int)", "ask(int,int,boolean)", "believed(int)", "askNext()", "write(int,int)", "tear()",
+            "judge()", "seed(int)", "keep(int)", "goBack(int)"));
+
+    public static void main(String[] args) throws IOException {
+        constants();
+        methods();
+        membersBesides();
+        sizes();
+        words();
+        due.end();
+    }
+
+    private static void constants() {
+        due.is("NONE", BarrelMoon.NONE, -1);
+        due.is("UNKNOWN", BarrelMoon.UNKNOWN, -1000000001);
+        due.is("OUTSIDE", BarrelMoon.OUTSIDE, -1000000002);
+        due.is("NOT", BarrelMoon.NOT, -1000000003);
+        due.is("FULL", BarrelMoon.FULL, -1000000004);
+        Set<String> names = Arrays.stream(BarrelMoon.class.getDeclaredFields())
+                .filter(f -> !Modifier.isPrivate(f.getModifiers())).map(Field::getName)
+                .collect(Collectors.toCollection(TreeSet::new));
+        due.holds("no other constant: " + names, names.equals(Set.of("NONE", "UNKNOWN", "OUTSIDE", "NOT", "FULL")));
+    }
+
+    private static void methods() {
+        Set<String> found = new TreeSet<>();
+        for (Method method : BarrelMoon.class.getDeclaredMethods()) {
+            if (!Modifier.isPrivate(method.getModifiers())) {
+                due.holds(method.getName() + " is public", Modifier.isPublic(method.getModifiers()));
+                due.holds(method.getName() + " is no static one", !Modifier.isStatic(method.getModifiers()));
+                due.holds(method.getName() + " answers an int", method.getReturnType() == int.class);
+                found.add(method.getName() + Arrays.stream(method.getParameterTypes()).map(Class::getName)
+                        .collect(Collectors.joining(",", "(", ")")));
+            }
+        }
+        due.holds("the methods are those of the document: " + found, found.equals(FACE));
+        due.is("constructors", BarrelMoon.class.getDeclaredConstructors().length, 1);
+        due.is("public constructors without arguments", BarrelMoon.class.getConstructors()[0].getParameterCount(), 0);
+        due.holds("public and final", BarrelMoon.class.getModifiers() == (Modifier.PUBLIC | Modifier.FINAL));
+    }
+
+    private static void membersBesides() {
+        Set<String> names = FACE.stream().map(s -> s.substring(0, s.indexOf('('))).collect(Collectors.toSet());
+        checkClass(BarrelMoon.class, names);
+        for (Class<?> inside : BarrelMoon.class.getDeclaredClasses()) {
+            int kind = inside.getModifiers();
+            due.holds(inside + " is static", Modifier.isStatic(kind));
+            due.holds(inside + " is private or package-visible", !Modifier.isPublic(kind) && !Modifier.isProtected(kind));
+            checkClass(inside, names);
+        }
+    }
+
+    private static void checkClass(Class<?> type, Set<String> face) {
+        int fields = 0;
+        for (Field field : type.getDeclaredFields()) {
+            boolean constant = Modifier.isStatic(field.getModifiers());
+            fields += constant ? 0 : 1;
+            due.holds(field + " is final if static", !constant || Modifier.isFinal(field.getModifiers()));
+        }
+        due.holds(type + " has some twenty fields at most", fields <= 20);
+        for (Method method : type.getDeclaredMethods()) {
+            boolean hidden = type != BarrelMoon.class || Modifier.isPrivate(method.getModifiers());
+            due.holds(method + " bears no name of the face", !hidden || !face.contains(method.getName()));
+            due.holds(method + " has seven parameters at most", method.getParameterCount() <= 7);
+        }
+    }
+
+    private static void sizes() throws IOException {
+        due.holds("some twelve classes", BarrelMoon.class.getDeclaredClasses().length + 1 <= 12);
+        List<String> lines = Files.readAllLines(SOURCE);
+        int begun = -1;
+        String end = "";
+        for (int i = 0; i < lines.size(); i++) {
+            Matcher head = Pattern.compile("( {4}| {8})\\S.*\\) \\{").matcher(lines.get(i));
+            if (head.matches()) {
+                begun = i;
+                end = head.group(1) + "}";
+            } else if (begun >= 0 && lines.get(i).equals(end)) {
+                due.holds("at most sixty lines: " + lines.get(begun).trim(), i - begun + 1 <= 60);
+                begun = -1;
+            }
+        }
+    }
+
+    private static void words() throws IOException {
+        String source = Files.readString(SOURCE);
+        due.holds("letters 1 to 127 alone", source.chars().allMatch(c -> c >= 1 && c <= 127));
+        String code = source.replaceAll("(?s)/\\*.*?\\*/", " ").replaceAll("//[^\n]*", " ");
+        String[] ruledOut = {"\\bthrow\\b", "\\bthrows\\b", "\\btry\\b", "\\bcatch\\b", "\\bsynchronized\\b",
+            "\\bassert\\b", "\\bpackage\\b", "\\bimport\\b", "->", "::", "\\bprotected\\b", "\\bSystem\\.(?!arraycopy)",
+            "\\bThread\\b", "\\bRandom\\b", "\\bObject\\b", "\\bhashCode\\b", "\\btoString\\b", "Exact\\b",
+            "\\bstatic\\s*\\{", "\\bvar\\b", "\\bdouble\\b", "\\bfloat\\b", "\""};
+        for (String word : ruledOut) {
+            due.holds("nowhere " + word, !Pattern.compile(word).matcher(code).find());
+        }
+    }
+}
