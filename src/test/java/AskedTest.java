@@ -90,6 +90,10 @@ public final class AskedTest {
         due.is("from 3", unseen.askNext(), 4);
         unseen.see(4, true);
         due.is("what is seen parts nothing", unseen.askNext(), BarrelMoon.NONE);
+        BarrelMoon only = Due.townOf("t8;r1 15;");
+        due.is("the last saying, by the greatest set", only.askNext(), 15);
+        only.see(15, true);
+        due.is("16 sayings, none parts them", only.askNext(), BarrelMoon.NONE);
         BarrelMoon best = Due.townOf("t3;r1 0;r1 0;r1 2,0;r1 4;");
         // 0 by 12 of 16, 2 by 6 of 16, 4 by 8 of 16.
         due.is("the best comes later", best.askNext(), 4);

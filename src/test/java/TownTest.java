@@ -13,6 +13,7 @@ public final class TownTest {
         faultChangesNothing();
         townBeginsAnew();
         emptyText();
+        manyTowns();
         toldAndRule();
         due.end();
     }
@@ -273,6 +274,28 @@ public final class TownTest {
         due.is("no rule", moon.rule(0, 0), BarrelMoon.UNKNOWN);
         due.is("no image", moon.goBack(0), BarrelMoon.NOT);
         due.is("the seed stays", moon.seed(0), 3);
+    }
+
+    /** Nothing of an earlier town comes back, whatever came in between. */
+    private static void manyTowns() {
+        String[] between = {"", "t9;", "t1;", "t8;s15;r1 2;x"};
+        for (String text : between) {
+            BarrelMoon moon = Due.townOf("t4;r5 2,0;s0;s7;");
+            Due.feedAll(moon, "t3;r1 1;r2 2;s5;");
+            moon.town();
+            Due.feedAll(moon, text);
+            moon.town();
+            Due.feedAll(moon, "t2;r3 3,0,1;");
+            due.is("a later town", moon.town(), 1);
+            due.is("its things", moon.told(0), 2);
+            due.is("its seen", moon.told(3), 0);
+            due.is("its rule", moon.rule(0, 2), 3);
+            due.is("no other rule", moon.rule(1, 2), BarrelMoon.UNKNOWN);
+            due.is("none", moon.town(), 0);
+            due.is("no things", moon.told(0), 0);
+            due.is("no rules", moon.told(1), 0);
+            due.is("nothing seen", moon.told(3), 0);
+        }
     }
 
     private static void toldAndRule() {

@@ -125,6 +125,13 @@ public final class TriedTest {
         due.is("one word in a greater set", least.words(0), Due.set(7));
         BarrelMoon sets = Due.townOf("t8;r1 0,12,2,4;r1 0,10,6,8;");
         due.is("of like ones the least set", sets.words(0), Due.set(6, 8, 10));
+        BarrelMoon first = Due.townOf("t8;r1 2,0;r1 4,0,3;r1 6,1,3,5;r1 3,2;");
+        due.is("the first alone", first.words(2), BarrelMoon.NONE);
+        first.forbid(3, true);
+        due.is("the first alone", first.words(2), Due.set(0));
+        first.forbid(0, true);
+        due.is("the first of two", first.words(4), Due.set(0, 3));
+        due.is("the first of three", first.words(6), Due.set(1, 3, 5));
         BarrelMoon last = Due.townOf("t8;r1 0,15,13,11;");
         due.is("the last three", last.words(0), Due.set(11, 13, 15));
         BarrelMoon elsewhere = Due.townOf("t3;r1 0;r1 4;r1 5;");
