@@ -620,7 +620,8 @@ public final class BarrelMoon {
             faultKind = 0;
             faultAt = NONE;
             draft.clear();
-            if (length == 0) {
+            // Blanks may stand anywhere, so a text of blanks alone is read as an empty one.
+            if (peek() == END) {
                 return;
             }
             readThings(draft);

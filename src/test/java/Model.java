@@ -118,7 +118,7 @@ final class Model {
         int concluded = 0;
         TreeSet<Integer> premises = new TreeSet<>();
         try {
-            String expect = text.length() == 0 ? "clause" : "things";
+            String expect = text.toString().replace(" ", "").isEmpty() ? "clause" : "things";
             for (Token token : tokens()) {
                 String word = token.word;
                 switch (expect) {

@@ -153,8 +153,6 @@ public final class TownTest {
         bad("t4;r0 0,1,2,3,4;", 1, 13);
         bad("t4;r0 0,1,2,3 ,x", 1, 14);
         bad("t4;r0 0,1,2,3,9999;", 1, 13);
-        // Blanks alone are a text that is not empty: its end stands where 't' should.
-        bad("   ", 1, 3);
     }
 
     private static void faultsOfNumbers() {
@@ -274,6 +272,15 @@ public final class TownTest {
         due.is("no rule", moon.rule(0, 0), BarrelMoon.UNKNOWN);
         due.is("no image", moon.goBack(0), BarrelMoon.NOT);
         due.is("the seed stays", moon.seed(0), 3);
+        // Blanks may stand anywhere: blanks alone are an empty text, too.
+        BarrelMoon blank = Due.townOf("t2;r5 2,0;s0;");
+        Due.feedAll(blank, "   ");
+        due.is("letters", blank.told(2), 3);
+        due.is("town of blanks", blank.town(), 0);
+        due.is("fault of blanks", blank.fault(), BarrelMoon.NONE);
+        due.is("no town of blanks", blank.told(0), 0);
+        due.is("nothing seen", blank.told(3), 0);
+        due.is("letters", blank.told(2), 0);
     }
 
     /** Nothing of an earlier town comes back, whatever came in between. */
