@@ -11,7 +11,6 @@ public final class DoneTest {
         driftRefused();
         undoing();
         undoOfMany();
-        debatesAboveNineThousand();
         due.end();
     }
 
@@ -188,37 +187,5 @@ public final class DoneTest {
         due.is("to undo again", moon.see(9, true), 0);
         due.is("undo", moon.undo(), 0);
         due.is("seen", moon.told(3), 15);
-    }
-
-    /** From this seed three drifts of 60 days have 72 debates, so 9001 come within 512 calls. */
-    private static void debatesAboveNineThousand() {
-        BarrelMoon moon = Due.townOf("t1;");
-        for (int i = 0; i < 125; i++) {
-            moon.seed(189176);
-            moon.drift(60);
-            moon.drift(60);
-            moon.drift(60);
-        }
-        due.is("debates", moon.told(6), 9000);
-        moon.seed(189176);
-        int seen = moon.told(3);
-        due.holds("drift at 9000", moon.drift(60) >= 0);
-        due.holds("drift goes above", moon.told(6) > 9001);
-        due.is("drift is undone", moon.undo(), 19);
-        due.is("debates again", moon.told(6), 9000);
-        due.is("debate at 9000", moon.debate() & seen, seen);
-        due.is("debates", moon.told(6), 9001);
-        String before = Due.look(moon);
-        due.is("debate above", moon.debate(), BarrelMoon.FULL);
-        due.is("drift above", moon.drift(1), BarrelMoon.FULL);
-        due.is("drift above and outside", moon.drift(61), BarrelMoon.OUTSIDE);
-        due.holds("refused changes nothing", before.equals(Due.look(moon)));
-        due.holds("drop goes on", moon.drop() >= 0);
-        due.is("see goes on", moon.see(0, true), seen & 1);
-        moon.undo();
-        moon.undo();
-        due.is("undo goes on", moon.undo(), 17);
-        due.is("debates", moon.told(6), 9000);
-        due.holds("debate again", moon.debate() >= 0);
     }
 }

@@ -1,6 +1,14 @@
+import java.io.IOException;
+import java.nio.file.Files;
+import java.nio.file.Path;
+
 /** Counts answers that are not as due, and helps to write short tests. */
 final class Due {
+    private static final Path DOCUMENT = Path.of("../shared/DOC.md");
+
     private final String test;
+    private final String document = readDocument();
+    private String sentence = "";
     private int wrong = 0;
     private int asked = 0;
 
@@ -8,11 +16,27 @@ final class Due {
         this.test = test;
     }
 
+    /** Blanks and line ends are one blank each, so that a sentence over two lines is found, too. */
+    private static String readDocument() {
+        try {
+            return Files.readString(DOCUMENT).replaceAll("\\s+", " ");
+        } catch (IOException gone) {
+            return null;
+        }
+    }
+
+    /** The words of the document that ask for the next answers; they have to stand in it, letter by letter. */
+    void sentence(String words) {
+        sentence = "";
+        holds("the document says '" + words + "'", document == null || document.contains(words));
+        sentence = " ['" + words + "']";
+    }
+
     void is(String call, long got, long want) {
         asked++;
         if (got != want) {
             wrong++;
-            System.out.println(test + ": " + call + " answered " + got + ", due is " + want);
+            System.out.println(test + ": " + call + " answered " + got + ", due is " + want + sentence);
         }
     }
 
@@ -43,6 +67,28 @@ final class Due {
             throw new IllegalStateException("the test's own text has a fault: " + text);
         }
         return moon;
+    }
+
+    /** A text that becomes a town of so much, without a fault. */
+    void good(String text, int things, int rules, int seen) {
+        BarrelMoon moon = new BarrelMoon();
+        feedAll(moon, text);
+        is("town of " + text, moon.town(), rules);
+        is("fault of " + text, moon.fault(), BarrelMoon.NONE);
+        is("things of " + text, moon.told(0), things);
+        is("rules of " + text, moon.told(1), rules);
+        is("seen of " + text, moon.told(3), seen);
+        is("letters behind " + text, moon.told(2), 0);
+    }
+
+    /** A text whose fault is of this kind, at this letter. */
+    void bad(String text, int kind, int at) {
+        BarrelMoon moon = new BarrelMoon();
+        feedAll(moon, text);
+        is("town of " + text, moon.town(), -10 - kind);
+        is("fault of " + text, moon.fault(), at);
+        is("no town by " + text, moon.told(0), 0);
+        is("letters behind " + text, moon.told(2), 0);
     }
 
     static int set(int... bits) {

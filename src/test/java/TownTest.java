@@ -76,132 +76,112 @@ public final class TownTest {
     }
 
     private static void goodTexts() {
-        good("t1;", 1, 0, 0);
-        good("t8;s15;", 8, 0, 1 << 15);
-        good("  t  8 ;  ", 8, 0, 0);
-        good("t008;s 007;s015 ;", 8, 0, Due.set(7, 15));
-        good("t1;s0;s1;", 1, 0, 3);
-        good("t1;r0 0;", 1, 1, 0);
-        good("t1;r99 1,0;", 1, 1, 0);
-        good("t1;r 0 0 , 1 ;", 1, 1, 0);
-        good("t2;r0 0,1,2,3;s3;r1 1;", 2, 2, 8);
-        good("t2;r000 003,000;", 2, 1, 0);
-        good("t1;r0 0;r0 0;r0 0;r0 0;r0 0;r0 0;r0 0;r0 0;r0 0;r0 0;", 1, 10, 0);
-        good("t8;r1 0,1;" + " ".repeat(230), 8, 1, 0);
-    }
-
-    private static void good(String text, int things, int rules, int seen) {
-        BarrelMoon moon = new BarrelMoon();
-        Due.feedAll(moon, text);
-        due.is("town of " + text, moon.town(), rules);
-        due.is("fault of " + text, moon.fault(), BarrelMoon.NONE);
-        due.is("things of " + text, moon.told(0), things);
-        due.is("rules of " + text, moon.told(1), rules);
-        due.is("seen of " + text, moon.told(3), seen);
-        due.is("letters behind " + text, moon.told(2), 0);
-    }
-
-    private static void bad(String text, int kind, int at) {
-        BarrelMoon moon = new BarrelMoon();
-        Due.feedAll(moon, text);
-        due.is("town of " + text, moon.town(), -10 - kind);
-        due.is("fault of " + text, moon.fault(), at);
-        due.is("no town by " + text, moon.told(0), 0);
-        due.is("letters behind " + text, moon.told(2), 0);
+        due.good("t1;", 1, 0, 0);
+        due.good("t8;s15;", 8, 0, 1 << 15);
+        due.good("  t  8 ;  ", 8, 0, 0);
+        due.good("t008;s 007;s015 ;", 8, 0, Due.set(7, 15));
+        due.good("t1;s0;s1;", 1, 0, 3);
+        due.good("t1;r0 0;", 1, 1, 0);
+        due.good("t1;r99 1,0;", 1, 1, 0);
+        due.good("t1;r 0 0 , 1 ;", 1, 1, 0);
+        due.good("t2;r0 0,1,2,3;s3;r1 1;", 2, 2, 8);
+        due.good("t2;r000 003,000;", 2, 1, 0);
+        due.good("t1;r0 0;r0 0;r0 0;r0 0;r0 0;r0 0;r0 0;r0 0;r0 0;r0 0;", 1, 10, 0);
+        due.good("t8;r1 0,1;" + " ".repeat(230), 8, 1, 0);
     }
 
     private static void faultsOfStanding() {
-        bad("s0;", 1, 0);
-        bad("  r0 0;", 1, 2);
-        bad("x", 1, 0);
-        bad(";", 1, 0);
-        bad("5", 1, 0);
-        bad("5555", 1, 0);
-        bad("T1;", 1, 0);
-        bad("t", 1, 1);
-        bad("t  ", 1, 3);
-        bad("t1", 1, 2);
-        bad("t1  ", 1, 4);
-        bad("t;", 1, 1);
-        bad("t-1;", 1, 1);
-        bad("t1 2;", 1, 3);
-        bad("t1 9999;", 1, 3);
-        bad("t1,", 1, 2);
-        bad("t1;;", 1, 3);
-        bad("t1;0", 1, 3);
-        bad("t1;x", 1, 3);
-        bad("t1;" + (char) 9, 1, 3);
-        bad("t1;" + (char) 255, 1, 3);
-        bad("t1;r", 1, 4);
-        bad("t1;r;", 1, 4);
-        bad("t1;rr", 1, 4);
-        bad("t1;rt", 1, 4);
-        bad("t1;r1;", 1, 5);
-        bad("t1;r1,0;", 1, 5);
-        bad("t1;r10;", 1, 6);
-        bad("t1;r1 0", 1, 7);
-        bad("t1;r1 0 1;", 1, 8);
-        bad("t1;r1 0,;", 1, 8);
-        bad("t1;r1 0,", 1, 8);
-        bad("t1;r1 0,1", 1, 9);
-        bad("t1;r1 0,1 1;", 1, 10);
-        bad("t1;r1 0s", 1, 7);
-        bad("t1;s", 1, 4);
-        bad("t1;s;", 1, 4);
-        bad("t1;s0", 1, 5);
-        bad("t1;s0,1;", 1, 5);
-        bad("t4;r0 0,1,2,3,4;", 1, 13);
-        bad("t4;r0 0,1,2,3 ,x", 1, 14);
-        bad("t4;r0 0,1,2,3,9999;", 1, 13);
+        due.bad("s0;", 1, 0);
+        due.bad("  r0 0;", 1, 2);
+        due.bad("x", 1, 0);
+        due.bad(";", 1, 0);
+        due.bad("5", 1, 0);
+        due.bad("5555", 1, 0);
+        due.bad("T1;", 1, 0);
+        due.bad("t", 1, 1);
+        due.bad("t  ", 1, 3);
+        due.bad("t1", 1, 2);
+        due.bad("t1  ", 1, 4);
+        due.bad("t;", 1, 1);
+        due.bad("t-1;", 1, 1);
+        due.bad("t1 2;", 1, 3);
+        due.bad("t1 9999;", 1, 3);
+        due.bad("t1,", 1, 2);
+        due.bad("t1;;", 1, 3);
+        due.bad("t1;0", 1, 3);
+        due.bad("t1;x", 1, 3);
+        due.bad("t1;" + (char) 9, 1, 3);
+        due.bad("t1;" + (char) 255, 1, 3);
+        due.bad("t1;r", 1, 4);
+        due.bad("t1;r;", 1, 4);
+        due.bad("t1;rr", 1, 4);
+        due.bad("t1;rt", 1, 4);
+        due.bad("t1;r1;", 1, 5);
+        due.bad("t1;r1,0;", 1, 5);
+        due.bad("t1;r10;", 1, 6);
+        due.bad("t1;r1 0", 1, 7);
+        due.bad("t1;r1 0 1;", 1, 8);
+        due.bad("t1;r1 0,;", 1, 8);
+        due.bad("t1;r1 0,", 1, 8);
+        due.bad("t1;r1 0,1", 1, 9);
+        due.bad("t1;r1 0,1 1;", 1, 10);
+        due.bad("t1;r1 0s", 1, 7);
+        due.bad("t1;s", 1, 4);
+        due.bad("t1;s;", 1, 4);
+        due.bad("t1;s0", 1, 5);
+        due.bad("t1;s0,1;", 1, 5);
+        due.bad("t4;r0 0,1,2,3,4;", 1, 13);
+        due.bad("t4;r0 0,1,2,3 ,x", 1, 14);
+        due.bad("t4;r0 0,1,2,3,9999;", 1, 13);
     }
 
     private static void faultsOfNumbers() {
-        bad("t0;", 2, 1);
-        bad("t9;", 2, 1);
-        bad("t9", 2, 1);
-        bad("t 9;", 2, 2);
-        bad("t000;", 2, 1);
-        bad("t0001;", 2, 1);
-        bad("t" + "1".repeat(239), 2, 1);
-        bad("t" + "0".repeat(238) + "1", 2, 1);
-        bad("t1;r100 0;", 2, 4);
-        bad("t1;r0099 0;", 2, 4);
-        bad("t1;r99 2;", 2, 7);
-        bad("t8;r99 16;", 2, 7);
-        bad("t8;r9 0000;", 2, 6);
-        bad("t1;r0 0,2;", 2, 8);
-        bad("t1;r0 0, 0001;", 2, 9);
-        bad("t1;s2;", 2, 4);
-        bad("t1;s 2;", 2, 5);
-        bad("t8;s16;", 2, 4);
-        bad("t1;s0000;", 2, 4);
-        bad("t1;s1000", 2, 4);
-        bad("t1;s4294967296;", 2, 4);
-        bad("t1;s4294967297;", 2, 4);
+        due.bad("t0;", 2, 1);
+        due.bad("t9;", 2, 1);
+        due.bad("t9", 2, 1);
+        due.bad("t 9;", 2, 2);
+        due.bad("t000;", 2, 1);
+        due.bad("t0001;", 2, 1);
+        due.bad("t" + "1".repeat(239), 2, 1);
+        due.bad("t" + "0".repeat(238) + "1", 2, 1);
+        due.bad("t1;r100 0;", 2, 4);
+        due.bad("t1;r0099 0;", 2, 4);
+        due.bad("t1;r99 2;", 2, 7);
+        due.bad("t8;r99 16;", 2, 7);
+        due.bad("t8;r9 0000;", 2, 6);
+        due.bad("t1;r0 0,2;", 2, 8);
+        due.bad("t1;r0 0, 0001;", 2, 9);
+        due.bad("t1;s2;", 2, 4);
+        due.bad("t1;s 2;", 2, 5);
+        due.bad("t8;s16;", 2, 4);
+        due.bad("t1;s0000;", 2, 4);
+        due.bad("t1;s1000", 2, 4);
+        due.bad("t1;s4294967296;", 2, 4);
+        due.bad("t1;s4294967297;", 2, 4);
         // The least of the faults at one letter: four figures of a SAYING that was told already.
-        bad("t1;s0;s0000;", 2, 7);
-        bad("t1;r0 0,0000;", 2, 8);
+        due.bad("t1;s0;s0000;", 2, 7);
+        due.bad("t1;r0 0,0000;", 2, 8);
     }
 
     private static void faultsOfNumberOfClauses() {
-        bad("t1;t1;", 3, 3);
-        bad("t1; t", 3, 4);
-        bad("t1;s0;t", 3, 6);
-        bad("t1;r0 0;r0 0;r0 0;r0 0;r0 0;r0 0;r0 0;r0 0;r0 0;r0 0;r0 0;", 3, 53);
-        bad("t1;r0 0;r0 0;r0 0;r0 0;r0 0;r0 0;r0 0;r0 0;r0 0;r0 0; r", 3, 54);
+        due.bad("t1;t1;", 3, 3);
+        due.bad("t1; t", 3, 4);
+        due.bad("t1;s0;t", 3, 6);
+        due.bad("t1;r0 0;r0 0;r0 0;r0 0;r0 0;r0 0;r0 0;r0 0;r0 0;r0 0;r0 0;", 3, 53);
+        due.bad("t1;r0 0;r0 0;r0 0;r0 0;r0 0;r0 0;r0 0;r0 0;r0 0;r0 0; r", 3, 54);
         // A fault ahead of the eleventh rule comes first.
-        bad("t1;r0 0;r0 0;r0 0;r0 0;r0 0;r0 0;r0 0;r0 0;r0 0;r0 2;r0 0;", 2, 51);
+        due.bad("t1;r0 0;r0 0;r0 0;r0 0;r0 0;r0 0;r0 0;r0 0;r0 0;r0 2;r0 0;", 2, 51);
     }
 
     private static void faultsOfTellingTwice() {
-        bad("t1;r0 0,0;", 4, 8);
-        bad("t1;r0 1, 001;", 4, 9);
-        bad("t2;r0 0,1,1;", 4, 10);
-        bad("t2;r0 0,1,2,1;", 4, 12);
-        bad("t2;r0 0,1,2,0x", 4, 12);
-        bad("t1;s0;s0;", 4, 7);
-        bad("t1;s0;s1;s 01;", 4, 11);
-        bad("t1;s0;s0", 4, 7);
+        due.bad("t1;r0 0,0;", 4, 8);
+        due.bad("t1;r0 1, 001;", 4, 9);
+        due.bad("t2;r0 0,1,1;", 4, 10);
+        due.bad("t2;r0 0,1,2,1;", 4, 12);
+        due.bad("t2;r0 0,1,2,0x", 4, 12);
+        due.bad("t1;s0;s0;", 4, 7);
+        due.bad("t1;s0;s1;s 01;", 4, 11);
+        due.bad("t1;s0;s0", 4, 7);
     }
 
     private static void faultChangesNothing() {
