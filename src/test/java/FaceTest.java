@@ -23,12 +23,17 @@ public final class FaceTest {
             "vote(int,int)", "ask(int,int,boolean)", "believed(int)", "askNext()", "write(int,int)", "tear()",
             "judge()", "seed(int)", "keep(int)", "goBack(int)"));
 
+    /** Rule 5. */
+    private static final Set<Class<?>> PLAIN = Set.of(int.class, long.class, boolean.class, char.class, String.class,
+            int[].class, long[].class, char[].class, byte[].class);
+
     public static void main(String[] args) throws IOException {
         constants();
         methods();
         membersBesides();
         sizes();
         words();
+        library();
         due.end();
     }
 
@@ -78,6 +83,7 @@ public final class FaceTest {
             boolean constant = Modifier.isStatic(field.getModifiers());
             fields += constant ? 0 : 1;
             due.holds(field + " is final if static", !constant || Modifier.isFinal(field.getModifiers()));
+            due.holds(field + " is of a plain type if static", !constant || PLAIN.contains(field.getType()));
         }
         due.holds(type + " has some twenty fields at most", fields <= 20);
         for (Method method : type.getDeclaredMethods()) {
@@ -115,5 +121,17 @@ public final class FaceTest {
         for (String word : ruledOut) {
             due.holds("nowhere " + word, !Pattern.compile(word).matcher(code).find());
         }
+    }
+
+    /** Rule 4: of the library only what is listed there, and of that only what the class needs. */
+    private static void library() throws IOException {
+        String code = Files.readString(SOURCE).replaceAll("(?s)/\\*.*?\\*/", " ").replaceAll("//[^\n]*", " ");
+        Matcher call = Pattern.compile("\\b([A-Z]\\w*)\\.(\\w+)").matcher(code);
+        Set<String> allowed = Set.of("Integer.bitCount", "Math.max", "Math.min");
+        while (call.find()) {
+            due.holds("the library has " + call.group(), allowed.contains(call.group()));
+        }
+        due.holds("no class without a name", !Pattern.compile("\\bnew \\w+\\([^;]*\\) \\{").matcher(code).find());
+        due.holds("no row of rows of objects", !Pattern.compile("\\]\\s*\\[").matcher(code).find());
     }
 }

@@ -32,6 +32,7 @@ public final class RefusalsTest {
         outsideAheadOfNot();
         outsideAheadOfFull();
         atTheBounds();
+        lookingOn();
         due.end();
     }
 
@@ -94,15 +95,15 @@ public final class RefusalsTest {
         return Due.townOf("t4;r5 2,0;r3 4,2;r9 3,6;r2 4,0;r1 6;s0;");
     }
 
-    private static Refused in(String state, Supplier<BarrelMoon> make) {
-        return new Refused(due, state, make);
+    private static Twins in(String state, Supplier<BarrelMoon> make) {
+        return new Twins(due, state, make);
     }
 
     // ---- one refusal at a time
 
     private static void unknownSayings() {
         due.sentence("UNKNOWN (a SAYING, RULE, IMAGE that there is not; bits of such)");
-        Refused rich = in("rich", RefusalsTest::rich);
+        Twins rich = in("rich", RefusalsTest::rich);
         for (int s : NO_SAYINGS) {
             unknownSaying(rich, s);
         }
@@ -111,23 +112,23 @@ public final class RefusalsTest {
         unknownSaying(in("new", BarrelMoon::new), 0);
     }
 
-    private static void unknownSaying(Refused state, int s) {
-        state.is("see(" + s + ", true)", moon -> moon.see(s, true), UNKNOWN);
-        state.is("see(" + s + ", false)", moon -> moon.see(s, false), UNKNOWN);
-        state.is("proof(" + s + ", 0)", moon -> moon.proof(s, 0), UNKNOWN);
-        state.is("proof(" + s + ", 1)", moon -> moon.proof(s, 1), UNKNOWN);
-        state.is("words(" + s + ")", moon -> moon.words(s), UNKNOWN);
-        state.is("step(" + s + ")", moon -> moon.step(s), UNKNOWN);
-        state.is("barred(" + s + ")", moon -> moon.barred(s), UNKNOWN);
-        state.is("ask(0, " + s + ", true)", moon -> moon.ask(0, s, true), UNKNOWN);
-        state.is("ask(0, " + s + ", false)", moon -> moon.ask(0, s, false), UNKNOWN);
-        state.is("write(" + s + ", 0)", moon -> moon.write(s, 0), UNKNOWN);
-        state.is("write(" + s + ", 1)", moon -> moon.write(s, 1), UNKNOWN);
+    private static void unknownSaying(Twins state, int s) {
+        state.alike("see(" + s + ", true)", moon -> moon.see(s, true), UNKNOWN);
+        state.alike("see(" + s + ", false)", moon -> moon.see(s, false), UNKNOWN);
+        state.alike("proof(" + s + ", 0)", moon -> moon.proof(s, 0), UNKNOWN);
+        state.alike("proof(" + s + ", 1)", moon -> moon.proof(s, 1), UNKNOWN);
+        state.alike("words(" + s + ")", moon -> moon.words(s), UNKNOWN);
+        state.alike("step(" + s + ")", moon -> moon.step(s), UNKNOWN);
+        state.alike("barred(" + s + ")", moon -> moon.barred(s), UNKNOWN);
+        state.alike("ask(0, " + s + ", true)", moon -> moon.ask(0, s, true), UNKNOWN);
+        state.alike("ask(0, " + s + ", false)", moon -> moon.ask(0, s, false), UNKNOWN);
+        state.alike("write(" + s + ", 0)", moon -> moon.write(s, 0), UNKNOWN);
+        state.alike("write(" + s + ", 1)", moon -> moon.write(s, 1), UNKNOWN);
     }
 
     private static void unknownRules() {
         due.sentence("UNKNOWN (a SAYING, RULE, IMAGE that there is not; bits of such)");
-        Refused rich = in("rich", RefusalsTest::rich);
+        Twins rich = in("rich", RefusalsTest::rich);
         for (int r : NO_RULES) {
             unknownRule(rich, r);
         }
@@ -137,18 +138,18 @@ public final class RefusalsTest {
         unknownRule(in("ten rules", () -> Due.townOf("t8;" + "r1 2;".repeat(10))), 10);
     }
 
-    private static void unknownRule(Refused state, int r) {
+    private static void unknownRule(Twins state, int r) {
         for (int what = 0; what <= 3; what++) {
             int of = what;
-            state.is("rule(" + r + ", " + of + ")", moon -> moon.rule(r, of), UNKNOWN);
+            state.alike("rule(" + r + ", " + of + ")", moon -> moon.rule(r, of), UNKNOWN);
         }
-        state.is("forbid(" + r + ", true)", moon -> moon.forbid(r, true), UNKNOWN);
-        state.is("forbid(" + r + ", false)", moon -> moon.forbid(r, false), UNKNOWN);
+        state.alike("forbid(" + r + ", true)", moon -> moon.forbid(r, true), UNKNOWN);
+        state.alike("forbid(" + r + ", false)", moon -> moon.forbid(r, false), UNKNOWN);
     }
 
     private static void unknownSets() {
         due.sentence("UNKNOWN (a SAYING, RULE, IMAGE that there is not; bits of such)");
-        Refused rich = in("rich", RefusalsTest::rich);
+        Twins rich = in("rich", RefusalsTest::rich);
         for (int set : NO_SETS) {
             unknownSet(rich, set);
         }
@@ -159,18 +160,18 @@ public final class RefusalsTest {
         unknownSet(in("2 sayings", () -> Due.townOf("t1;")), 4);
     }
 
-    private static void unknownSet(Refused state, int set) {
-        state.is("follows(" + set + ")", moon -> moon.follows(set), UNKNOWN);
-        state.is("ask(" + set + ", 0, true)", moon -> moon.ask(set, 0, true), UNKNOWN);
-        state.is("ask(" + set + ", 0, false)", moon -> moon.ask(set, 0, false), UNKNOWN);
+    private static void unknownSet(Twins state, int set) {
+        state.alike("follows(" + set + ")", moon -> moon.follows(set), UNKNOWN);
+        state.alike("ask(" + set + ", 0, true)", moon -> moon.ask(set, 0, true), UNKNOWN);
+        state.alike("ask(" + set + ", 0, false)", moon -> moon.ask(set, 0, false), UNKNOWN);
     }
 
     private static void unknownImages() {
         due.sentence("IMAGES 0, 1 keep these, THE SEED.");
         for (int i : NO_IMAGES) {
-            in("rich", RefusalsTest::rich).is("keep(" + i + ")", moon -> moon.keep(i), UNKNOWN);
-            in("rich", RefusalsTest::rich).is("goBack(" + i + ")", moon -> moon.goBack(i), UNKNOWN);
-            in("new", BarrelMoon::new).is("keep(" + i + ")", moon -> moon.keep(i), UNKNOWN);
+            in("rich", RefusalsTest::rich).alike("keep(" + i + ")", moon -> moon.keep(i), UNKNOWN);
+            in("rich", RefusalsTest::rich).alike("goBack(" + i + ")", moon -> moon.goBack(i), UNKNOWN);
+            in("new", BarrelMoon::new).alike("keep(" + i + ")", moon -> moon.keep(i), UNKNOWN);
         }
     }
 
@@ -179,69 +180,69 @@ public final class RefusalsTest {
         outsideOfAnyState(in("new", BarrelMoon::new));
         outsideOfAnyState(in("no town", RefusalsTest::townless));
         outsideOfAnyState(in("rich", RefusalsTest::rich));
-        Refused rich = in("rich", RefusalsTest::rich);
+        Twins rich = in("rich", RefusalsTest::rich);
         for (int what : new int[] {-1, 4, 5, LEAST, MOST}) {
-            rich.is("rule(0, " + what + ")", moon -> moon.rule(0, what), OUTSIDE);
-            rich.is("rule(4, " + what + ")", moon -> moon.rule(4, what), OUTSIDE);
+            rich.alike("rule(0, " + what + ")", moon -> moon.rule(0, what), OUTSIDE);
+            rich.alike("rule(4, " + what + ")", moon -> moon.rule(4, what), OUTSIDE);
         }
         for (int what : new int[] {-1, 2, 3, LEAST, MOST}) {
-            rich.is("proof(0, " + what + ")", moon -> moon.proof(0, what), OUTSIDE);
-            rich.is("proof(7, " + what + ")", moon -> moon.proof(7, what), OUTSIDE);
-            rich.is("write(0, " + what + ")", moon -> moon.write(0, what), OUTSIDE);
-            rich.is("write(7, " + what + ")", moon -> moon.write(7, what), OUTSIDE);
+            rich.alike("proof(0, " + what + ")", moon -> moon.proof(0, what), OUTSIDE);
+            rich.alike("proof(7, " + what + ")", moon -> moon.proof(7, what), OUTSIDE);
+            rich.alike("write(0, " + what + ")", moon -> moon.write(0, what), OUTSIDE);
+            rich.alike("write(7, " + what + ")", moon -> moon.write(7, what), OUTSIDE);
         }
     }
 
-    private static void outsideOfAnyState(Refused state) {
+    private static void outsideOfAnyState(Twins state) {
         for (int letter : new int[] {-1, 256, 257, -255, LEAST, MOST}) {
-            state.is("feed(" + letter + ")", moon -> moon.feed(letter), OUTSIDE);
+            state.alike("feed(" + letter + ")", moon -> moon.feed(letter), OUTSIDE);
         }
         for (int what : new int[] {-1, 13, 14, LEAST, MOST}) {
-            state.is("told(" + what + ")", moon -> moon.told(what), OUTSIDE);
+            state.alike("told(" + what + ")", moon -> moon.told(what), OUTSIDE);
         }
         for (int n : new int[] {0, -1, 61, 62, LEAST, MOST}) {
-            state.is("drift(" + n + ")", moon -> moon.drift(n), OUTSIDE);
+            state.alike("drift(" + n + ")", moon -> moon.drift(n), OUTSIDE);
         }
         for (int what : new int[] {-1, 2, 3, LEAST, MOST}) {
-            state.is("giveUp(" + what + ")", moon -> moon.giveUp(what), OUTSIDE);
+            state.alike("giveUp(" + what + ")", moon -> moon.giveUp(what), OUTSIDE);
         }
         for (int what : new int[] {-1, 3, 4, LEAST, MOST}) {
-            state.is("believed(" + what + ")", moon -> moon.believed(what), OUTSIDE);
+            state.alike("believed(" + what + ")", moon -> moon.believed(what), OUTSIDE);
         }
         for (int n : new int[] {0, -1, 10, 11, LEAST, MOST}) {
-            state.is("vote(" + n + ", 50)", moon -> moon.vote(n, 50), OUTSIDE);
-            state.is("vote(" + n + ", 101)", moon -> moon.vote(n, 101), OUTSIDE);
+            state.alike("vote(" + n + ", 50)", moon -> moon.vote(n, 50), OUTSIDE);
+            state.alike("vote(" + n + ", 101)", moon -> moon.vote(n, 101), OUTSIDE);
         }
         for (int q : new int[] {-1, 101, 102, LEAST, MOST}) {
-            state.is("vote(1, " + q + ")", moon -> moon.vote(1, q), OUTSIDE);
-            state.is("vote(9, " + q + ")", moon -> moon.vote(9, q), OUTSIDE);
+            state.alike("vote(1, " + q + ")", moon -> moon.vote(1, q), OUTSIDE);
+            state.alike("vote(9, " + q + ")", moon -> moon.vote(9, q), OUTSIDE);
         }
         for (int v : new int[] {-1, -2, LEAST}) {
-            state.is("seed(" + v + ")", moon -> moon.seed(v), OUTSIDE);
+            state.alike("seed(" + v + ")", moon -> moon.seed(v), OUTSIDE);
         }
     }
 
     private static void notNow() {
         due.sentence("NOT (not now, as told)");
-        for (Refused state : new Refused[] {in("new", BarrelMoon::new), in("no town", RefusalsTest::townless)}) {
-            state.is("debate()", BarrelMoon::debate, NOT);
-            state.is("drop()", BarrelMoon::drop, NOT);
-            state.is("drift(1)", moon -> moon.drift(1), NOT);
-            state.is("drift(60)", moon -> moon.drift(60), NOT);
-            state.is("undo()", BarrelMoon::undo, NOT);
-            state.is("goBack(0)", moon -> moon.goBack(0), NOT);
-            state.is("goBack(1)", moon -> moon.goBack(1), NOT);
+        for (Twins state : new Twins[] {in("new", BarrelMoon::new), in("no town", RefusalsTest::townless)}) {
+            state.alike("debate()", BarrelMoon::debate, NOT);
+            state.alike("drop()", BarrelMoon::drop, NOT);
+            state.alike("drift(1)", moon -> moon.drift(1), NOT);
+            state.alike("drift(60)", moon -> moon.drift(60), NOT);
+            state.alike("undo()", BarrelMoon::undo, NOT);
+            state.alike("goBack(0)", moon -> moon.goBack(0), NOT);
+            state.alike("goBack(1)", moon -> moon.goBack(1), NOT);
         }
-        Refused left = in("a town that was left for none", RefusalsTest::left);
-        left.is("debate()", BarrelMoon::debate, NOT);
-        left.is("drop()", BarrelMoon::drop, NOT);
-        left.is("drift(1)", moon -> moon.drift(1), NOT);
-        left.is("undo()", BarrelMoon::undo, NOT);
-        left.is("goBack(0)", moon -> moon.goBack(0), NOT);
-        Refused fresh = in("fresh", RefusalsTest::fresh);
-        fresh.is("undo()", BarrelMoon::undo, NOT);
-        fresh.is("goBack(0)", moon -> moon.goBack(0), NOT);
-        fresh.is("goBack(1)", moon -> moon.goBack(1), NOT);
+        Twins left = in("a town that was left for none", RefusalsTest::left);
+        left.alike("debate()", BarrelMoon::debate, NOT);
+        left.alike("drop()", BarrelMoon::drop, NOT);
+        left.alike("drift(1)", moon -> moon.drift(1), NOT);
+        left.alike("undo()", BarrelMoon::undo, NOT);
+        left.alike("goBack(0)", moon -> moon.goBack(0), NOT);
+        Twins fresh = in("fresh", RefusalsTest::fresh);
+        fresh.alike("undo()", BarrelMoon::undo, NOT);
+        fresh.alike("goBack(0)", moon -> moon.goBack(0), NOT);
+        fresh.alike("goBack(1)", moon -> moon.goBack(1), NOT);
     }
 
     private static BarrelMoon left() {
@@ -256,75 +257,75 @@ public final class RefusalsTest {
 
     private static void full() {
         due.sentence("What is refused changes nothing.");
-        Refused filled = in("filled", RefusalsTest::filled);
+        Twins filled = in("filled", RefusalsTest::filled);
         for (int letter : new int[] {0, ' ', ';', 't', 255}) {
-            filled.is("feed(" + letter + ")", moon -> moon.feed(letter), FULL);
+            filled.alike("feed(" + letter + ")", moon -> moon.feed(letter), FULL);
         }
-        filled.is("ask(0, 0, true)", moon -> moon.ask(0, 0, true), FULL);
-        filled.is("ask(255, 7, false)", moon -> moon.ask(255, 7, false), FULL);
-        filled.is("write(0, 0)", moon -> moon.write(0, 0), FULL);
-        filled.is("write(7, 1)", moon -> moon.write(7, 1), FULL);
+        filled.alike("ask(0, 0, true)", moon -> moon.ask(0, 0, true), FULL);
+        filled.alike("ask(255, 7, false)", moon -> moon.ask(255, 7, false), FULL);
+        filled.alike("write(0, 0)", moon -> moon.write(0, 0), FULL);
+        filled.alike("write(7, 1)", moon -> moon.write(7, 1), FULL);
     }
 
     // ---- two refusals at once
 
     private static void unknownAheadOfOutside() {
         due.sentence("REFUSALS, of several the first in this order: UNKNOWN");
-        for (Refused state : new Refused[] {in("rich", RefusalsTest::rich), in("filled", RefusalsTest::filled)}) {
+        for (Twins state : new Twins[] {in("rich", RefusalsTest::rich), in("filled", RefusalsTest::filled)}) {
             for (int what : new int[] {-1, 4, LEAST, MOST}) {
-                state.is("rule(5, " + what + ")", moon -> moon.rule(5, what), UNKNOWN);
-                state.is("rule(-1, " + what + ")", moon -> moon.rule(-1, what), UNKNOWN);
+                state.alike("rule(5, " + what + ")", moon -> moon.rule(5, what), UNKNOWN);
+                state.alike("rule(-1, " + what + ")", moon -> moon.rule(-1, what), UNKNOWN);
             }
             for (int what : new int[] {-1, 2, LEAST, MOST}) {
-                state.is("proof(8, " + what + ")", moon -> moon.proof(8, what), UNKNOWN);
-                state.is("proof(-1, " + what + ")", moon -> moon.proof(-1, what), UNKNOWN);
-                state.is("write(8, " + what + ")", moon -> moon.write(8, what), UNKNOWN);
-                state.is("write(-1, " + what + ")", moon -> moon.write(-1, what), UNKNOWN);
+                state.alike("proof(8, " + what + ")", moon -> moon.proof(8, what), UNKNOWN);
+                state.alike("proof(-1, " + what + ")", moon -> moon.proof(-1, what), UNKNOWN);
+                state.alike("write(8, " + what + ")", moon -> moon.write(8, what), UNKNOWN);
+                state.alike("write(-1, " + what + ")", moon -> moon.write(-1, what), UNKNOWN);
             }
         }
-        Refused none = in("new", BarrelMoon::new);
-        none.is("rule(0, 4)", moon -> moon.rule(0, 4), UNKNOWN);
-        none.is("proof(0, 2)", moon -> moon.proof(0, 2), UNKNOWN);
-        none.is("write(0, 2)", moon -> moon.write(0, 2), UNKNOWN);
+        Twins none = in("new", BarrelMoon::new);
+        none.alike("rule(0, 4)", moon -> moon.rule(0, 4), UNKNOWN);
+        none.alike("proof(0, 2)", moon -> moon.proof(0, 2), UNKNOWN);
+        none.alike("write(0, 2)", moon -> moon.write(0, 2), UNKNOWN);
     }
 
     private static void unknownAheadOfNot() {
         due.sentence("UNKNOWN, NOT: it was not kept.");
         for (int i : NO_IMAGES) {
-            in("new", BarrelMoon::new).is("goBack(" + i + ")", moon -> moon.goBack(i), UNKNOWN);
-            in("fresh", RefusalsTest::fresh).is("goBack(" + i + ")", moon -> moon.goBack(i), UNKNOWN);
+            in("new", BarrelMoon::new).alike("goBack(" + i + ")", moon -> moon.goBack(i), UNKNOWN);
+            in("fresh", RefusalsTest::fresh).alike("goBack(" + i + ")", moon -> moon.goBack(i), UNKNOWN);
         }
     }
 
     private static void unknownAheadOfFull() {
         due.sentence("UNKNOWN, FULL (6).");
-        Refused filled = in("filled", RefusalsTest::filled);
-        filled.is("ask(256, 0, true)", moon -> moon.ask(256, 0, true), UNKNOWN);
-        filled.is("ask(-1, 0, true)", moon -> moon.ask(-1, 0, true), UNKNOWN);
-        filled.is("ask(0, 8, true)", moon -> moon.ask(0, 8, true), UNKNOWN);
-        filled.is("ask(0, -1, true)", moon -> moon.ask(0, -1, true), UNKNOWN);
+        Twins filled = in("filled", RefusalsTest::filled);
+        filled.alike("ask(256, 0, true)", moon -> moon.ask(256, 0, true), UNKNOWN);
+        filled.alike("ask(-1, 0, true)", moon -> moon.ask(-1, 0, true), UNKNOWN);
+        filled.alike("ask(0, 8, true)", moon -> moon.ask(0, 8, true), UNKNOWN);
+        filled.alike("ask(0, -1, true)", moon -> moon.ask(0, -1, true), UNKNOWN);
         due.sentence("UNKNOWN, OUTSIDE, FULL (15).");
-        filled.is("write(8, 0)", moon -> moon.write(8, 0), UNKNOWN);
-        filled.is("write(-1, 1)", moon -> moon.write(-1, 1), UNKNOWN);
+        filled.alike("write(8, 0)", moon -> moon.write(8, 0), UNKNOWN);
+        filled.alike("write(-1, 1)", moon -> moon.write(-1, 1), UNKNOWN);
     }
 
     private static void outsideAheadOfNot() {
         due.sentence("OUTSIDE, NOT: no TOWN; FULL: DEBATES are above 9000.");
         for (int n : new int[] {0, -1, 61, LEAST, MOST}) {
-            in("new", BarrelMoon::new).is("drift(" + n + ")", moon -> moon.drift(n), OUTSIDE);
-            in("no town", RefusalsTest::townless).is("drift(" + n + ")", moon -> moon.drift(n), OUTSIDE);
+            in("new", BarrelMoon::new).alike("drift(" + n + ")", moon -> moon.drift(n), OUTSIDE);
+            in("no town", RefusalsTest::townless).alike("drift(" + n + ")", moon -> moon.drift(n), OUTSIDE);
         }
     }
 
     private static void outsideAheadOfFull() {
         due.sentence("OUTSIDE, FULL (240).");
-        Refused filled = in("filled", RefusalsTest::filled);
+        Twins filled = in("filled", RefusalsTest::filled);
         for (int letter : new int[] {-1, 256, LEAST, MOST}) {
-            filled.is("feed(" + letter + ")", moon -> moon.feed(letter), OUTSIDE);
+            filled.alike("feed(" + letter + ")", moon -> moon.feed(letter), OUTSIDE);
         }
         due.sentence("UNKNOWN, OUTSIDE, FULL (15).");
         for (int follows : new int[] {-1, 2, LEAST, MOST}) {
-            filled.is("write(0, " + follows + ")", moon -> moon.write(0, follows), OUTSIDE);
+            filled.alike("write(0, " + follows + ")", moon -> moon.write(0, follows), OUTSIDE);
         }
     }
 
@@ -367,5 +368,37 @@ public final class RefusalsTest {
         due.is("goBack(1)", rich().goBack(1), 1);
         due.holds("seed(0)", rich().seed(0) >= 0);
         due.holds("seed(most)", rich().seed(MOST) >= 0);
+    }
+
+    /** What tells or tries something changes as little as what is refused. */
+    private static void lookingOn() {
+        due.sentence("TRIED from now; nothing changes by it;");
+        for (Twins state : new Twins[] {in("rich", RefusalsTest::rich), in("filled", RefusalsTest::filled)}) {
+            state.alike("fault", BarrelMoon::fault);
+            for (int what = 0; what <= 12; what++) {
+                int of = what;
+                state.alike("told(" + of + ")", moon -> moon.told(of));
+            }
+            for (int s = 0; s < 8; s++) {
+                int saying = s;
+                state.alike("follows(" + (1 << saying) + ")", moon -> moon.follows(1 << saying));
+                state.alike("proof(" + saying + ", 0)", moon -> moon.proof(saying, 0));
+                state.alike("proof(" + saying + ", 1)", moon -> moon.proof(saying, 1));
+                state.alike("words(" + saying + ")", moon -> moon.words(saying));
+                state.alike("step(" + saying + ")", moon -> moon.step(saying));
+                state.alike("barred(" + saying + ")", moon -> moon.barred(saying));
+            }
+            for (int what = 0; what <= 2; what++) {
+                int of = what;
+                state.alike("rule(4, " + of + ")", moon -> moon.rule(4, of));
+                state.alike("giveUp(" + of + ")", moon -> moon.giveUp(of));
+                state.alike("believed(" + of + ")", moon -> moon.believed(of));
+            }
+            state.alike("never", BarrelMoon::never);
+            state.alike("round", BarrelMoon::round);
+            state.alike("vote(9, 33)", moon -> moon.vote(9, 33), 139775926);
+            state.alike("askNext", BarrelMoon::askNext);
+            state.alike("judge", BarrelMoon::judge);
+        }
     }
 }

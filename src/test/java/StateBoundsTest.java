@@ -15,7 +15,9 @@ public final class StateBoundsTest {
         overAndOver();
         quarrels();
         heldAndDropped();
+        whatIsForbidden();
         whatIsTold();
+        numbersFromZero();
         townLeavesNothing();
         days();
         draws();
@@ -63,15 +65,16 @@ public final class StateBoundsTest {
     }
 
     private static void seenOfAllSayings() {
-        due.sentence("SEEN is a SET of SAYINGS (a SAYING and its DENIAL, too).");
         BarrelMoon moon = Due.townOf("t8;");
         int seen = 0;
+        due.sentence("A SAYING is SEEN (is), or not any more: 1 it was, 0 not. UNKNOWN.");
         for (int s = 0; s < 16; s++) {
             due.is("see(" + s + ")", moon.see(s, true), 0);
             seen |= 1 << s;
             due.is("seen", moon.told(3), seen);
             due.is("see(" + s + ") again", moon.see(s, true), 1);
         }
+        due.sentence("SEEN is a SET of SAYINGS (a SAYING and its DENIAL, too).");
         due.is("all are seen", moon.told(3), 65535);
         due.is("see(16)", moon.see(16, true), BarrelMoon.UNKNOWN);
         for (int s = 15; s >= 0; s--) {
@@ -157,8 +160,8 @@ public final class StateBoundsTest {
         due.is("debates", moon.told(6), 4);
     }
 
-    private static void whatIsTold() {
-        due.sentence("0 N, 1 RULES, 2 letters of THE TEXT, 3 SEEN, 4 HELD, 5 FORBIDDEN (SETS), 6 DEBATES");
+    private static void whatIsForbidden() {
+        due.sentence("A RULE is FORBIDDEN (is), or not: 1 it was, 0 not. UNKNOWN.");
         BarrelMoon moon = Due.townOf("t8;" + "r1 15;".repeat(10));
         for (int r = 0; r < 10; r++) {
             due.is("forbid(" + r + ")", moon.forbid(r, true), 0);
@@ -172,11 +175,6 @@ public final class StateBoundsTest {
             due.is("forbidden", moon.told(5), (1 << r) - 1);
         }
         due.is("forbid(10, false)", moon.forbid(10, false), BarrelMoon.UNKNOWN);
-        due.is("N", moon.told(0), 8);
-        due.is("rules", moon.told(1), 10);
-        due.is("told(-1)", moon.told(-1), BarrelMoon.OUTSIDE);
-        due.is("told(12)", moon.told(12), 20);
-        due.is("told(13)", moon.told(13), BarrelMoon.OUTSIDE);
         due.sentence("what = 0 C, 1 Q, 2 its SAYINGS S (a SET), 3 1 it is FORBIDDEN, 0 not.");
         due.is("rule(9, -1)", moon.rule(9, -1), BarrelMoon.OUTSIDE);
         due.is("rule(9, 0)", moon.rule(9, 0), 1);
@@ -184,6 +182,65 @@ public final class StateBoundsTest {
         due.is("rule(9, 2)", moon.rule(9, 2), 0);
         due.is("rule(9, 3)", moon.rule(9, 3), 0);
         due.is("rule(9, 4)", moon.rule(9, 4), BarrelMoon.OUTSIDE);
+    }
+
+    /** All of them at once, as great as they can be. */
+    private static void whatIsTold() {
+        due.sentence("0 N, 1 RULES, 2 letters of THE TEXT, 3 SEEN, 4 HELD, 5 FORBIDDEN (SETS), 6 DEBATES,"
+                + " 7 what FOLLOWS from SEEN, 8 QUARRELS in that, 9 QUARRELS in HELD, 10 what was ASKED,"
+                + " 11 entries of THE BOOK, 12 how many can be undone. OUTSIDE.");
+        BarrelMoon moon = Due.townOf("t8;" + "r1 15;".repeat(10));
+        for (int k = 0; k < 16; k++) {
+            moon.see(k, true);
+        }
+        for (int r = 0; r < 10; r++) {
+            moon.forbid(r, true);
+        }
+        for (int k = 0; k < 6; k++) {
+            moon.ask(65535, 15, true);
+        }
+        for (int k = 0; k < 15; k++) {
+            moon.write(15, 1);
+        }
+        for (int k = 0; k < 240; k++) {
+            moon.feed(' ');
+        }
+        moon.debate();
+        moon.debate();
+        int[] wants = {8, 10, 240, 65535, 65535, 1023, 2, 65535, 255, 255, 6, 15, 20};
+        for (int what = 0; what <= 12; what++) {
+            due.is("told(" + what + ")", moon.told(what), wants[what]);
+        }
+        due.is("told(-1)", moon.told(-1), BarrelMoon.OUTSIDE);
+        due.is("told(13)", moon.told(13), BarrelMoon.OUTSIDE);
+        // What FOLLOWS from SEEN is not what is HELD, and neither are their QUARRELS.
+        BarrelMoon apart = Due.townOf("t2;r1 1,0;s0;");
+        apart.debate();
+        apart.see(0, false);
+        apart.see(2, true);
+        due.is("follows", apart.told(7), Due.set(2));
+        due.is("quarrels in that", apart.told(8), 0);
+        due.is("held", apart.told(4), Due.set(0, 1));
+        due.is("quarrels in held", apart.told(9), 1);
+        apart.drop();
+        apart.see(3, true);
+        due.is("quarrels in what follows", apart.told(8), 2);
+        due.is("quarrels in held", apart.told(9), 0);
+    }
+
+    private static void numbersFromZero() {
+        due.sentence("What has a number has it from 0 on, as it comes.");
+        BarrelMoon moon = Due.townOf("t8;r10 0;s3;r11 1;r12 2;s4;r13 3;");
+        for (int r = 0; r < 4; r++) {
+            due.is("the cost of rule " + r, moon.rule(r, 0), 10 + r);
+            due.is("what rule " + r + " concludes", moon.rule(r, 1), r);
+        }
+        due.sentence("A SET is a whole number, bit k for k.");
+        due.is("seen", moon.told(3), 8 + 16);
+        due.is("follows", moon.told(7), 1 + 2 + 4 + 8 + 16);
+        due.sentence("A SAYING is 2 times a THING: it is so; or 1 more: it is not so");
+        BarrelMoon last = Due.townOf("t8;s14;s15;s0;s3;");
+        due.is("thing 7 is and is not so", last.told(8), 128);
     }
 
     private static void townLeavesNothing() {
@@ -382,6 +439,7 @@ public final class StateBoundsTest {
                 states[i] = now(moon);
             }
             int kept = Math.min(20, changes);
+            due.sentence("The latest is undone: how many more can be. NOT: none.");
             due.is(changes + " changes: to undo", moon.told(12), kept);
             for (int i = 1; i <= kept; i++) {
                 due.is(changes + " changes: undo " + i, moon.undo(), kept - i);

@@ -22,6 +22,7 @@ public final class TextBoundsTest {
         theFirstFault();
         theLeastFault();
         emptyTexts();
+        oneTextAfterAnother();
         answersOfTown();
         theLatestTown();
         due.end();
@@ -390,6 +391,30 @@ public final class TextBoundsTest {
         due.sentence("blanks (32) may stand anywhere but within NUMBERS");
         due.good(" ", 0, 0, 0);
         due.good(" ".repeat(240), 0, 0, 0);
+    }
+
+    /** Nothing of an earlier text is left in a later one, be it good, faulty or empty. */
+    private static void oneTextAfterAnother() {
+        due.sentence("THE TEXT (it is empty then, with a FAULT, too) becomes THE TOWN");
+        String[] texts = {"t8;r9 15;r8 14;s13;s12;", "t2;r7 3,0;s1;", "t1;", "", "t3;r1 0;s0;s0;", "t9;", "t4;s5;"};
+        int[] things = {8, 2, 1, 0, -1, -1, 4};
+        int[] rules = {2, 1, 0, 0, -14, -12, 0};
+        int[] seen = {Due.set(12, 13), Due.set(1), 0, 0, 0, 0, Due.set(5)};
+        for (int order = 0; order < 7 * 7 * 7; order++) {
+            BarrelMoon moon = new BarrelMoon();
+            int n = 0;
+            int so = 0;
+            for (int i : new int[] {order % 7, order / 7 % 7, order / 49}) {
+                Due.feedAll(moon, texts[i]);
+                due.is("town of " + texts[i], moon.town(), rules[i]);
+                due.is("letters", moon.told(2), 0);
+                n = things[i] < 0 ? n : things[i];
+                so = things[i] < 0 ? so : seen[i];
+                due.is("things behind " + texts[i], moon.told(0), n);
+                due.is("seen behind " + texts[i], moon.told(3), so);
+                due.holds("a debate behind " + texts[i], n > 0 ? moon.debate() >= 0 : moon.debate() == BarrelMoon.NOT);
+            }
+        }
     }
 
     private static void answersOfTown() {

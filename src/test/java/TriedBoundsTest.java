@@ -103,6 +103,7 @@ public final class TriedBoundsTest {
             due.is("proof(" + s + ", 0)", moon.proof(s, 0), s);
             due.is("proof(" + s + ", 1)", moon.proof(s, 1), (1 << s) - 1);
         }
+        due.sentence("PROOF: what = 0 how many, 1 the SET; NONE. UNKNOWN, OUTSIDE.");
         for (int s = 11; s <= 15; s++) {
             due.is("proof(" + s + ", 0)", moon.proof(s, 0), NONE);
             due.is("proof(" + s + ", 1)", moon.proof(s, 1), NONE);
@@ -160,8 +161,10 @@ public final class TriedBoundsTest {
         due.is("none is left", peace.giveUp(0), 0);
         BarrelMoon last = Due.townOf("t8;s14;s15;");
         due.is("the last thing quarrels", last.giveUp(0), NONE);
+        due.sentence("GIVE UP: what = 0 the SET, 1 how much; NONE. OUTSIDE.");
         BarrelMoon none = Due.townOf("t8;");
         due.is("no rules", none.giveUp(0), 0);
+        due.is("no rules", none.giveUp(1), 0);
         due.is("giveUp(2)", none.giveUp(2), BarrelMoon.OUTSIDE);
         due.is("giveUp(-1)", none.giveUp(-1), BarrelMoon.OUTSIDE);
     }
@@ -197,6 +200,14 @@ public final class TriedBoundsTest {
         due.is("one less", moon.words(3), Due.set(13));
         due.is("one less", moon.words(6), 0);
         due.is("seen itself", moon.words(15), 0);
+        // The lowest words there are, for the last saying and for the first.
+        BarrelMoon low = Due.townOf("t8;r1 15,0;r1 12,0,2;r1 11,0,2,4;r1 0,2;");
+        low.forbid(3, true);
+        due.is("the lowest word", low.words(15), Due.set(0));
+        due.is("the two lowest", low.words(12), Due.set(0, 2));
+        due.is("the three lowest", low.words(11), Due.set(0, 2, 4));
+        low.forbid(3, false);
+        due.is("the lowest for 0", low.words(0), Due.set(2));
         // Four words would be no fewer than the three that the last rule asks for.
         BarrelMoon four = Due.townOf("t8;r1 0,2,4,6;r1 2,8;r1 4,10;r1 6,12,14;");
         due.is("three of seven", four.words(0), Due.set(2, 4, 6));
@@ -351,7 +362,7 @@ public final class TriedBoundsTest {
 
     /** Reckoned apart from the class; where a part is cut the odds are not those of the books. */
     private static void votesCutDown() {
-        due.sentence("(times q / 100, cut, one more; the rest as many)");
+        due.sentence("parts of a BILLION by how many say yes, man by man (times q / 100, cut, one more; the rest as many)");
         BarrelMoon moon = new BarrelMoon();
         due.is("vote(3, 1)", moon.vote(3, 1), 298000);
         due.is("vote(4, 1)", moon.vote(4, 1), 3970);
@@ -422,6 +433,7 @@ public final class TriedBoundsTest {
         believed(ring, 2, 1022, 1022);
         ring.ask(1, 1, true);
         believed(ring, 1, 1023, 1023);
+        due.sentence("BELIEVED: what = 0 how many, 1 the least (NONE), 2 SURE. OUTSIDE.");
         due.is("believed(3)", ring.believed(3), BarrelMoon.OUTSIDE);
         due.is("believed(-1)", ring.believed(-1), BarrelMoon.OUTSIDE);
         // From the SET alone, whatever is SEEN.
@@ -485,6 +497,19 @@ public final class TriedBoundsTest {
         // 1 by 2 of 8, 2 and 14 by 4 of 8.
         due.is("of like ones the least", Due.townOf("t8;r1 2;r1 1,2;r1 14;").askNext(), 2);
         due.is("the last saying", Due.townOf("t8;r1 15;").askNext(), 15);
+        // Asked over and over on one object, it is counted anew each time.
+        BarrelMoon moon = Due.townOf("t2;r1 0;r1 0;r1 3,0;s0;");
+        due.is("half of them", moon.askNext(), 3);
+        moon.see(0, false);
+        due.is("three of eight", moon.askNext(), 3);
+        moon.ask(0, 3, false);
+        due.is("0 by 3 of 5", moon.askNext(), 0);
+        moon.ask(0, 0, true);
+        due.is("none parts them", moon.askNext(), NONE);
+        moon.tear();
+        for (int i = 0; i < 5; i++) {
+            due.is("three of eight again", moon.askNext(), 3);
+        }
     }
 
     // ---- the book
@@ -545,6 +570,7 @@ public final class TriedBoundsTest {
         }
         moon.see(0, false);
         due.is("entry 0 is the first", moon.judge(), 0);
+        due.sentence("THE BOOK (15 at most) tells whether SAYINGS FOLLOW from SEEN (0, 1)");
         BarrelMoon again = Due.townOf("t8;s0;");
         again.write(0, 1);
         again.write(0, 0);

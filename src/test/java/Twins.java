@@ -2,10 +2,10 @@ import java.util.function.Function;
 import java.util.function.Supplier;
 
 /**
- * Makes sure that a refused call changes nothing: two objects have the same calls, one of them the refused
- * one besides, and both are then looked at to the bottom.
+ * Makes sure that a call changes nothing: two objects have the same calls, one of them this one besides, and
+ * both are then looked at to the bottom.
  */
-final class Refused {
+final class Twins {
     interface Call {
         int on(BarrelMoon moon);
     }
@@ -14,27 +14,33 @@ final class Refused {
     private final Supplier<BarrelMoon> make;
     private final String state;
 
-    Refused(Due due, String state, Supplier<BarrelMoon> make) {
+    Twins(Due due, String state, Supplier<BarrelMoon> make) {
         this.due = due;
         this.state = state;
         this.make = make;
     }
 
-    void is(String name, Call refused, int want) {
+    /** The call changes nothing, whatever it answers. */
+    void alike(String name, Call call) {
+        alike(name, call, call.on(make.get()));
+    }
+
+    /** The call answers this and changes nothing. */
+    void alike(String name, Call call, int want) {
         String where = state + ": " + name;
-        compare(where, refused, want, "what is told", Refused::toldAndSeed);
-        compare(where, refused, want, "what can be undone", Refused::undoAll);
-        compare(where, refused, want, "image 0", moon -> goBackTo(moon, 0));
-        compare(where, refused, want, "image 1", moon -> goBackTo(moon, 1));
-        compare(where, refused, want, "the text", Refused::readText);
-        compare(where, refused, want, "the book", Refused::readBook);
-        compare(where, refused, want, "what was asked", Refused::askOn);
+        compare(where, call, want, "what is told", Twins::toldAndSeed);
+        compare(where, call, want, "what can be undone", Twins::undoAll);
+        compare(where, call, want, "image 0", moon -> goBackTo(moon, 0));
+        compare(where, call, want, "image 1", moon -> goBackTo(moon, 1));
+        compare(where, call, want, "the text", Twins::readText);
+        compare(where, call, want, "the book", Twins::readBook);
+        compare(where, call, want, "what was asked", Twins::askOn);
     }
 
     /** Each look changes what it looks at, so each has two new objects. */
-    private void compare(String where, Call refused, int want, String what, Function<BarrelMoon, String> look) {
+    private void compare(String where, Call call, int want, String what, Function<BarrelMoon, String> look) {
         BarrelMoon with = make.get();
-        due.is(where, refused.on(with), want);
+        due.is(where, call.on(with), want);
         String after = look.apply(with);
         String without = look.apply(make.get());
         due.holds(where + " leaves " + what + " as it was: " + without + " became " + after, after.equals(without));
