@@ -159,6 +159,9 @@ public final class TriedBoundsTest {
             peace.forbid(r, true);
         }
         due.is("none is left", peace.giveUp(0), 0);
+        BarrelMoon nine = Due.townOf("t2;s1;" + "r99 0;".repeat(9) + "r99 2;");
+        due.is("nine of ten", nine.giveUp(0), 511);
+        due.is("nine of ten cost", nine.giveUp(1), 891);
         BarrelMoon last = Due.townOf("t8;s14;s15;");
         due.is("the last thing quarrels", last.giveUp(0), NONE);
         due.sentence("GIVE UP: what = 0 the SET, 1 how much; NONE. OUTSIDE.");
