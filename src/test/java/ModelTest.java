@@ -23,8 +23,9 @@ public final class ModelTest {
         due.end();
     }
 
+    /** Two calls are left at least when a text begins, so that no object has more than 512. */
     private void go(int run) {
-        while (calls < 512) {
+        while (calls < 510) {
             if (calls == 0 || chance(60)) {
                 tellTown(run);
             } else {
@@ -49,7 +50,7 @@ public final class ModelTest {
             text = spoil(text);
         }
         latest = "";
-        for (int i = 0; i < text.length() && calls < 511; i++) {
+        for (int i = 0; i < text.length() && calls < 510; i++) {
             int letter = text.charAt(i);
             compare(run, "feed(" + letter + ")", moon.feed(letter), model.feed(letter));
         }

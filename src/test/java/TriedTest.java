@@ -209,8 +209,10 @@ public final class TriedTest {
         due.is("vote(9, 100)", moon.vote(9, 100), 1000000000);
         due.is("vote(9, 0)", moon.vote(9, 0), 0);
         for (int n = 1; n <= 9; n++) {
+            // One object for 909 votes would have more than its 512 calls.
+            BarrelMoon voters = new BarrelMoon();
             for (int q = 0; q <= 100; q++) {
-                due.is("vote(" + n + ", " + q + ")", moon.vote(n, q), manByMan(n, q));
+                due.is("vote(" + n + ", " + q + ")", voters.vote(n, q), manByMan(n, q));
             }
         }
     }
