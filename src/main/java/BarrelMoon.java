@@ -807,7 +807,7 @@ public final class BarrelMoon {
 
         int fewestWords(int s) {
             for (int count = 0; count <= WORDS_MOST; count++) {
-                int found = leastWords(s, count, town.sayings(), 0);
+                int found = leastWords(this, s, count, town.sayings(), 0);
                 if (found != NONE) {
                     return found;
                 }
@@ -816,14 +816,14 @@ public final class BarrelMoon {
         }
 
         /** The least SET that has what is chosen and count SAYINGS more, all under a bound; NONE. */
-        private int leastWords(int s, int count, int bound, int chosen) {
+        private static int leastWords(Trial trial, int s, int count, int bound, int chosen) {
             if (count <= 0) {
-                return bringTo(s, chosen) ? chosen : NONE;
+                return trial.bringTo(s, chosen) ? chosen : NONE;
             }
             // The highest word goes up slowest: so the first that is found is the least SET.
             for (int word = count - 1; word < bound; word++) {
                 if (word != s && word != denialOf(s)) {
-                    int found = leastWords(s, count - 1, word, chosen | 1 << word);
+                    int found = leastWords(trial, s, count - 1, word, chosen | 1 << word);
                     if (found != NONE) {
                         return found;
                     }
