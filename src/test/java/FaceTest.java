@@ -15,6 +15,7 @@ import java.util.stream.Collectors;
 /** The public face of the document, and those rules of LANGUAGE.md that can be seen from outside or by the letter. */
 public final class FaceTest {
     private static final Due due = new Due("FaceTest");
+    private static final Path DOCUMENT = Path.of("../shared/DOC.md");
     private static final Path SOURCE = Path.of("src/main/java/BarrelMoon.java");
     private static final Set<String> FACE = new TreeSet<>(List.of(
             "feed(int)", "town()", "fault()", "told(int)", "rule(int,int)", "see(int,boolean)",
@@ -30,10 +31,13 @@ public final class FaceTest {
     public static void main(String[] args) throws IOException {
         constants();
         methods();
+        documentsFace();
+        groups();
         membersBesides();
         sizes();
         words();
         library();
+        recursion();
         due.end();
     }
 
@@ -64,6 +68,36 @@ public final class FaceTest {
         due.is("constructors", BarrelMoon.class.getDeclaredConstructors().length, 1);
         due.is("public constructors without arguments", BarrelMoon.class.getConstructors()[0].getParameterCount(), 0);
         due.holds("public and final", BarrelMoon.class.getModifiers() == (Modifier.PUBLIC | Modifier.FINAL));
+    }
+
+    /** The code block of the document has the calls that the class has, and this test knows. */
+    private static void documentsFace() throws IOException {
+        Set<String> told = new TreeSet<>();
+        Matcher call = Pattern.compile("    public int (\\w+)\\((.*)\\);").matcher(Files.readString(DOCUMENT));
+        while (call.find()) {
+            told.add(call.group(1) + "(" + call.group(2).replaceAll("(int|boolean) \\w+", "$1").replace(" ", "") + ")");
+        }
+        due.holds("the document's face: " + told, told.equals(FACE));
+    }
+
+    /** What the interface says ahead of which calls stands in the source, too, ahead of these and no others. */
+    private static void groups() throws IOException {
+        Matcher group = Pattern.compile("Ahead of the calls (.*) the interface says: ---- (.*)\\.")
+                .matcher(Files.readString(DOCUMENT));
+        String source = Files.readString(SOURCE);
+        int calls = 0;
+        while (group.find()) {
+            int at = source.indexOf("    // ---- " + group.group(2) + "\n");
+            int next = source.indexOf("    // ---- ", at + 1);
+            due.holds("'" + group.group(2) + "' stands in the source", at >= 0);
+            String part = at < 0 ? "" : source.substring(at, next < 0 ? source.length() : next);
+            List<String> found = Pattern.compile("\n    public int (\\w+)\\(").matcher(part).results()
+                    .map(m -> m.group(1)).collect(Collectors.toList());
+            List<String> told = List.of(group.group(1).replace("`", "").split(", "));
+            due.holds("behind '" + group.group(2) + "' stand " + told + ": " + found, found.equals(told));
+            calls += told.size();
+        }
+        due.is("calls in groups", calls, FACE.size());
     }
 
     private static void membersBesides() {
@@ -133,5 +167,26 @@ public final class FaceTest {
         }
         due.holds("no class without a name", !Pattern.compile("\\bnew \\w+\\([^;]*\\) \\{").matcher(code).find());
         due.holds("no row of rows of objects", !Pattern.compile("\\]\\s*\\[").matcher(code).find());
+    }
+
+    /** Rule 8: what calls itself is private and static, with its depth among the arguments. */
+    private static void recursion() throws IOException {
+        List<String> lines = Files.readAllLines(SOURCE);
+        Pattern head = Pattern.compile("( {4}| {8})\\S.*\\b(\\w+)\\(.*\\) \\{");
+        String name = null;
+        String first = "";
+        String end = "";
+        for (String line : lines) {
+            Matcher begun = head.matcher(line);
+            if (begun.matches()) {
+                name = begun.group(2);
+                first = line.trim();
+                end = begun.group(1) + "}";
+            } else if (line.equals(end)) {
+                name = null;
+            } else if (name != null && Pattern.compile("(?<![.\\w])" + name + "\\(").matcher(line).find()) {
+                due.holds("calls itself: " + first, first.startsWith("private static ") && first.contains("int count"));
+            }
+        }
     }
 }
